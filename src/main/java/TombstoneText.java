@@ -76,7 +76,10 @@ public final class TombstoneText {
             return BAD;
         }
         int element = replicas[r].elementAt(position);
-        return element == NOT_THERE ? BAD : log.characters[element];
+        if (element == NOT_THERE) {
+            return BAD;
+        }
+        return log.characters[element];
     }
 
     public int position(int r, int operation) {
