@@ -1,5 +1,3 @@
-import java.util.Arrays;
-
 /** A text that three replicas edit at the same time; README.md says how it is used. */
 public final class TombstoneText {
     public static final int BAD = -1;
@@ -375,9 +373,10 @@ public final class TombstoneText {
             return dropped;
         }
 
+        /** An element's number is below its erase's, so its old mark is gone when it gets a new one. */
         private void markWhatMayGo() {
-            Arrays.fill(mayGo, false);
             for (int operation = 0; operation < log.count; operation++) {
+                mayGo[operation] = false;
                 if (log.isErase(operation) && isSettled(operation)) {
                     mayGo[log.targets[operation]] = true;
                 }
