@@ -73,12 +73,12 @@ public final class PromiseTest {
         due("2 at the end", x.insert(1, 2, 'd'), 2);
         due("2 within", x.insert(1, 2, 'c'), 3);
         due("2 other replica", x.insert(2, 0, 'x'), 4);
-        due("2 text", textOf(x, 1), "abcd");
-        due("2 text of 2", textOf(x, 2), "x");
-        due("2 text of 0", textOf(x, 0), "");
+        due("2 text", Scenes.textOf(x, 1), "abcd");
+        due("2 text of 2", Scenes.textOf(x, 2), "x");
+        due("2 text of 0", Scenes.textOf(x, 0), "");
         due("2 least character", x.insert(0, 0, (char) 32), 5);
         due("2 greatest character", x.insert(0, 1, (char) 126), 6);
-        due("2 edge text", textOf(x, 0), " ~");
+        due("2 edge text", Scenes.textOf(x, 0), " ~");
     }
 
     private static void insertOrder() {
@@ -87,20 +87,20 @@ public final class PromiseTest {
         x.insert(1, 0, 'b');
         x.insert(2, 0, 'c');
         x.insert(1, 1, 'd');
-        syncAll(x);
-        due("2 equal stamps, greater replica first", textOf(x, 0), "cbda");
+        Scenes.syncAll(x);
+        due("2 equal stamps, greater replica first", Scenes.textOf(x, 0), "cbda");
         x.insert(0, 0, '0');
         x.insert(2, 1, '2');
         x.insert(2, 2, '3');
         x.insert(1, 1, '1');
         x.insert(0, 2, '4');
-        syncAll(x);
-        due("2 greatest stamp first, what is after it behind it", textOf(x, 0), "0c4231bda");
+        Scenes.syncAll(x);
+        due("2 greatest stamp first, what is after it behind it", Scenes.textOf(x, 0), "0c4231bda");
         due("2 all the same", x.same(0, 1) && x.same(1, 2), true);
 
         x = new TombstoneText();
         x.insert(0, 0, 'p');
-        syncAll(x);
+        Scenes.syncAll(x);
         x.insert(0, 1, 'a');
         x.insert(1, 0, 'u');
         x.insert(1, 2, 'b');
@@ -108,23 +108,23 @@ public final class PromiseTest {
         x.insert(2, 1, 'd');
         x.deliver(0, 2);
         x.deliver(0, 3);
-        due("2 greater stamp first though it came later", textOf(x, 0), "upba");
-        syncAll(x);
-        due("2 equal stamps after the same element", textOf(x, 0), "upbcda");
+        due("2 greater stamp first though it came later", Scenes.textOf(x, 0), "upba");
+        Scenes.syncAll(x);
+        due("2 equal stamps after the same element", Scenes.textOf(x, 0), "upbcda");
     }
 
     private static void insertBehindErased() {
         TombstoneText x = new TombstoneText();
-        write(x, 0, "abc");
+        Scenes.write(x, 0, "abc");
         x.sync(1, 0);
         x.erase(0, 1);
         x.insert(0, 1, 'x');
-        due("2 positions are the text's", textOf(x, 0), "axc");
+        due("2 positions are the text's", Scenes.textOf(x, 0), "axc");
         x.insert(1, 2, 'y');
-        due("2 after an element erased elsewhere", textOf(x, 1), "abyc");
-        syncAll(x);
-        due("2 its place stays when it is erased", textOf(x, 0), "axyc");
-        due("2 and so elsewhere", textOf(x, 1), "axyc");
+        due("2 after an element erased elsewhere", Scenes.textOf(x, 1), "abyc");
+        Scenes.syncAll(x);
+        due("2 its place stays when it is erased", Scenes.textOf(x, 0), "axyc");
+        due("2 and so elsewhere", Scenes.textOf(x, 1), "axyc");
     }
 
     private static void insertWrong() {
@@ -143,7 +143,7 @@ public final class PromiseTest {
             due("2 no character " + c, x.insert(0, 0, (char) c), BAD);
         }
         due("2 refused changes nothing", x.operations(), 1);
-        due("2 refused text", textOf(x, 0), "a");
+        due("2 refused text", Scenes.textOf(x, 0), "a");
         due("2 refused stamp", x.stamp(x.insert(0, 0, 'b')), 8);
         due("2 refused line", x.known(0, 0, 0), 2);
     }
@@ -171,17 +171,17 @@ public final class PromiseTest {
 
     private static void eraseOrdinary() {
         TombstoneText x = new TombstoneText();
-        write(x, 0, "abcd");
+        Scenes.write(x, 0, "abcd");
         due("3 within", x.erase(0, 1), 4);
-        due("3 text", textOf(x, 0), "acd");
+        due("3 text", Scenes.textOf(x, 0), "acd");
         due("3 last", x.erase(0, 2), 5);
         due("3 first", x.erase(0, 0), 6);
-        due("3 text after all", textOf(x, 0), "c");
+        due("3 text after all", Scenes.textOf(x, 0), "c");
         x.deliver(1, 0);
         due("3 other replica", x.erase(1, 0), 7);
-        due("3 its text", textOf(x, 1), "");
+        due("3 its text", Scenes.textOf(x, 1), "");
         due("3 twice erased, first applied", x.sync(1, 0), 6);
-        due("3 twice erased, text", textOf(x, 1), "c");
+        due("3 twice erased, text", Scenes.textOf(x, 1), "c");
         due("3 twice erased, other way", x.sync(0, 1), 1);
         due("3 twice erased, length", x.length(0), 1);
     }
@@ -189,7 +189,7 @@ public final class PromiseTest {
     private static void eraseWrong() {
         TombstoneText x = new TombstoneText();
         due("3 empty", x.erase(0, 0), BAD);
-        write(x, 0, "ab");
+        Scenes.write(x, 0, "ab");
         for (int r : NO_REPLICAS) {
             due("3 no replica " + r, x.erase(r, 0), BAD);
         }
@@ -199,7 +199,7 @@ public final class PromiseTest {
         }
         due("3 not there at 1", x.erase(1, 0), BAD);
         due("3 refused changes nothing", x.operations(), 2);
-        due("3 refused text", textOf(x, 0), "ab");
+        due("3 refused text", Scenes.textOf(x, 0), "ab");
         x.erase(0, 1);
         due("3 erased is not there", x.erase(0, 1), BAD);
     }
@@ -208,7 +208,7 @@ public final class PromiseTest {
 
     private static void deliverOrdinary() {
         TombstoneText x = new TombstoneText();
-        write(x, 0, "abc");
+        Scenes.write(x, 0, "abc");
         due("4 own is applied already", x.deliver(0, 1), 0);
         due("4 own never waits", x.waiting(0), 0);
         due("4 last first", x.deliver(1, 2), 0);
@@ -216,13 +216,13 @@ public final class PromiseTest {
         due("4 again", x.deliver(1, 2), 0);
         due("4 waits once", x.waiting(1), 1);
         due("4 first", x.deliver(1, 0), 1);
-        due("4 text", textOf(x, 1), "a");
+        due("4 text", Scenes.textOf(x, 1), "a");
         due("4 between frees the last", x.deliver(1, 1), 2);
-        due("4 text of all", textOf(x, 1), "abc");
+        due("4 text of all", Scenes.textOf(x, 1), "abc");
         due("4 nothing waits", x.waiting(1), 0);
         due("4 applied already", x.deliver(1, 1), 0);
         due("4 applied is not waiting", x.waiting(1), 0);
-        due("4 text is as it was", textOf(x, 1), "abc");
+        due("4 text is as it was", Scenes.textOf(x, 1), "abc");
         due("4 others have nothing", x.length(2), 0);
     }
 
@@ -237,24 +237,24 @@ public final class PromiseTest {
         due("4 own edit frees nothing", x.waiting(2), 1);
         due("4 own edit's stamp", x.stamp(2), 6);
         due("4 both", x.deliver(2, 0), 2);
-        due("4 text", textOf(x, 2), "bca");
+        due("4 text", Scenes.textOf(x, 2), "bca");
         x.insert(2, 0, 'd');
         due("4 builds on what 0 lacks", x.deliver(0, 3), 0);
         due("4 next in line is not all", x.deliver(0, 2), 1);
         due("4 now", x.deliver(0, 1), 2);
-        due("4 text at 0", textOf(x, 0), "dbca");
+        due("4 text at 0", Scenes.textOf(x, 0), "dbca");
     }
 
     private static void deliverErase() {
         TombstoneText x = new TombstoneText();
-        write(x, 0, "ab");
+        Scenes.write(x, 0, "ab");
         x.sync(1, 0);
         x.erase(1, 0);
         due("4 erase before its insert", x.deliver(2, 2), 0);
         due("4 part of what it builds on", x.deliver(2, 0), 1);
-        due("4 text still", textOf(x, 2), "a");
+        due("4 text still", Scenes.textOf(x, 2), "a");
         due("4 rest frees the erase", x.deliver(2, 1), 2);
-        due("4 text then", textOf(x, 2), "b");
+        due("4 text then", Scenes.textOf(x, 2), "b");
     }
 
     private static void deliverWrong() {
@@ -276,18 +276,18 @@ public final class PromiseTest {
 
     private static void syncOrdinary() {
         TombstoneText x = new TombstoneText();
-        write(x, 0, "abc");
+        Scenes.write(x, 0, "abc");
         x.erase(0, 1);
         due("5 all", x.sync(1, 0), 4);
-        due("5 text", textOf(x, 1), "ac");
+        due("5 text", Scenes.textOf(x, 1), "ac");
         due("5 again", x.sync(1, 0), 0);
         due("5 with itself", x.sync(1, 1), 0);
         x.insert(1, 2, 'd');
         due("5 by way of another", x.sync(2, 1), 5);
-        due("5 its text", textOf(x, 2), "acd");
+        due("5 its text", Scenes.textOf(x, 2), "acd");
         due("5 is one way", x.length(0), 2);
         due("5 back", x.sync(0, 2), 1);
-        due("5 back text", textOf(x, 0), "acd");
+        due("5 back text", Scenes.textOf(x, 0), "acd");
     }
 
     private static void syncFreesWhatWaits() {
@@ -302,7 +302,7 @@ public final class PromiseTest {
         due("5 what waits at the other is not synced", x.sync(0, 2), 0);
         due("5 and what waited is counted", x.sync(2, 0), 3);
         due("5 nothing waits", x.waiting(2), 0);
-        due("5 text", textOf(x, 2), "abc");
+        due("5 text", Scenes.textOf(x, 2), "abc");
         x.insert(0, 0, 'd');
         due("5 what was already waiting is synced once", x.deliver(1, 3) + x.sync(1, 0), 1);
     }
@@ -322,10 +322,10 @@ public final class PromiseTest {
 
     private static void collectOrdinary() {
         TombstoneText x = new TombstoneText();
-        write(x, 0, "abc");
+        Scenes.write(x, 0, "abc");
         x.erase(0, 2);
         due("6 nobody else knows", x.collect(0), 0);
-        syncAll(x);
+        Scenes.syncAll(x);
         due("6 nobody else has said so", x.collect(0), 0);
         x.insert(1, 0, 'x');
         x.sync(0, 1);
@@ -334,7 +334,7 @@ public final class PromiseTest {
         x.sync(0, 2);
         due("6 both have said so", x.collect(0), 1);
         due("6 kept", x.kept(0), 4);
-        due("6 text", textOf(x, 0), "yxab");
+        due("6 text", Scenes.textOf(x, 0), "yxab");
         due("6 again", x.collect(0), 0);
         due("6 others on their own", x.collect(1), 0);
         x.sync(1, 2);
@@ -346,7 +346,7 @@ public final class PromiseTest {
     private static void collectWaitsForElementsAfter() {
         TombstoneText x = new TombstoneText();
         x.insert(0, 0, 'p');
-        syncAll(x);
+        Scenes.syncAll(x);
         x.insert(1, 1, 'q');
         x.erase(2, 0);
         x.sync(0, 1);
@@ -370,7 +370,7 @@ public final class PromiseTest {
     private static void collectOneOfTwoErases() {
         TombstoneText x = new TombstoneText();
         x.insert(0, 0, 'a');
-        syncAll(x);
+        Scenes.syncAll(x);
         x.erase(0, 0);
         x.erase(1, 0);
         x.sync(2, 0);
@@ -381,17 +381,17 @@ public final class PromiseTest {
         due("6 one erase is stable", x.stable(0, 1), true);
         due("6 the other isn't", x.stable(0, 2), false);
         due("6 one is enough", x.collect(0), 1);
-        syncAll(x);
+        Scenes.syncAll(x);
         due("6 the other takes nothing more", x.collect(0), 0);
         due("6 twice erased goes once", x.kept(0), 2);
     }
 
     private static void collectChangesNoText() {
         TombstoneText x = new TombstoneText();
-        write(x, 0, "abcd");
-        syncAll(x);
+        Scenes.write(x, 0, "abcd");
+        Scenes.syncAll(x);
         x.erase(0, 1);
-        syncAll(x);
+        Scenes.syncAll(x);
         x.insert(1, 1, 'x');
         x.insert(2, 2, 'y');
         x.insert(2, 1, 'z');
@@ -399,9 +399,9 @@ public final class PromiseTest {
         x.deliver(0, 6);
         due("6 gone at 0", x.collect(0), 1);
         due("6 kept at 0", x.kept(0), 5);
-        due("6 text of 0", textOf(x, 0), "axcyd");
-        syncAll(x);
-        due("6 what came later has its place", textOf(x, 0), "azxcyd");
+        due("6 text of 0", Scenes.textOf(x, 0), "axcyd");
+        Scenes.syncAll(x);
+        due("6 what came later has its place", Scenes.textOf(x, 0), "azxcyd");
         due("6 the same as where it is kept", x.same(0, 1) && x.same(0, 2), true);
         due("6 erased and gone has no position", x.position(0, 1), BAD);
     }
@@ -416,7 +416,7 @@ public final class PromiseTest {
 
     private static void lengthAndAt() {
         TombstoneText x = new TombstoneText();
-        write(x, 2, "xyz");
+        Scenes.write(x, 2, "xyz");
         due("7 length", x.length(2), 3);
         due("7 other", x.length(1), 0);
         due("8 first", x.at(2, 0), 'x');
@@ -440,7 +440,7 @@ public final class PromiseTest {
 
     private static void position() {
         TombstoneText x = new TombstoneText();
-        write(x, 0, "ab");
+        Scenes.write(x, 0, "ab");
         x.insert(0, 0, 'c');
         due("9 moved", x.position(0, 0), 1);
         due("9 last", x.position(0, 1), 2);
@@ -537,7 +537,7 @@ public final class PromiseTest {
 
     private static void known() {
         TombstoneText x = new TombstoneText();
-        write(x, 0, "ab");
+        Scenes.write(x, 0, "ab");
         due("13 own", x.known(0, 0, 0), 2);
         due("13 of others nothing", x.known(0, 1, 0) + x.known(0, 2, 0), 0);
         x.sync(1, 0);
@@ -610,7 +610,7 @@ public final class PromiseTest {
 
     private static void kept() {
         TombstoneText x = new TombstoneText();
-        write(x, 0, "ab");
+        Scenes.write(x, 0, "ab");
         due("15 own", x.kept(0), 2);
         due("15 not applied", x.kept(1), 0);
         x.deliver(1, 1);
@@ -624,7 +624,7 @@ public final class PromiseTest {
         due("15 applied with its erase", x.kept(2), 2);
         x.insert(1, 0, 'c');
         x.insert(2, 0, 'd');
-        syncAll(x);
+        Scenes.syncAll(x);
         due("15 nothing goes by itself", x.kept(0), 4);
         x.collect(0);
         due("15 collected", x.kept(0), 3);
@@ -638,7 +638,7 @@ public final class PromiseTest {
 
     private static void waiting() {
         TombstoneText x = new TombstoneText();
-        write(x, 0, "abc");
+        Scenes.write(x, 0, "abc");
         x.deliver(1, 2);
         x.deliver(1, 1);
         due("16 two", x.waiting(1), 2);
@@ -656,27 +656,6 @@ public final class PromiseTest {
         for (int r : NO_REPLICAS) {
             due("16 no replica " + r, x.waiting(r), BAD);
         }
-    }
-
-    private static void write(TombstoneText x, int r, String text) {
-        for (int i = 0; i < text.length(); i++) {
-            x.insert(r, i, text.charAt(i));
-        }
-    }
-
-    private static void syncAll(TombstoneText x) {
-        x.sync(0, 1);
-        x.sync(0, 2);
-        x.sync(1, 0);
-        x.sync(2, 0);
-    }
-
-    private static String textOf(TombstoneText x, int r) {
-        StringBuilder text = new StringBuilder();
-        for (int i = 0; i < x.length(r); i++) {
-            text.append((char) x.at(r, i));
-        }
-        return text.toString();
     }
 
     private static void due(String what, long got, long want) {

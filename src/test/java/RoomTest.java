@@ -3,7 +3,9 @@ import java.lang.management.ManagementFactory;
 
 /** All calls of a run share one room: calls make no objects, and a new object stays small. */
 public final class RoomTest {
-    private static final int ROUNDS = 300;
+    private static final int OBJECTS = 10;
+    /** Of 15 calls each, so that no object is used for more than 512. */
+    private static final int ROUNDS = 34;
     private static final int BYTES_OF_ALL_CALLS = 1_000;
     private static final int BYTES_OF_ONE_OBJECT = 20_000;
 
@@ -13,12 +15,18 @@ public final class RoomTest {
         long self = Thread.currentThread().getId();
         threads.getThreadAllocatedBytes(self);
         useAll(new TombstoneText()); // so that loading the classes isn't counted below
+        TombstoneText[] texts = new TombstoneText[OBJECTS];
         long start = threads.getThreadAllocatedBytes(self);
-        TombstoneText text = new TombstoneText();
+        for (int i = 0; i < OBJECTS; i++) {
+            texts[i] = new TombstoneText();
+        }
         long made = threads.getThreadAllocatedBytes(self);
-        useAll(text);
+        for (TombstoneText text : texts) {
+            useAll(text);
+        }
         long used = threads.getThreadAllocatedBytes(self);
-        check.due("a new object is small: " + (made - start), made - start < BYTES_OF_ONE_OBJECT, true);
+        long each = (made - start) / OBJECTS;
+        check.due("a new object is small: " + each, each < BYTES_OF_ONE_OBJECT, true);
         check.due("calls make no objects: " + (used - made), used - made < BYTES_OF_ALL_CALLS, true);
         check.end();
     }
