@@ -217,6 +217,10 @@ final class Model {
         return badReplica(r) ? BAD : waits.get(r).size();
     }
 
+    boolean wasDelivered(int r, int operation) {
+        return applied.get(r).contains(operation) || waits.get(r).contains(operation);
+    }
+
     private static boolean badReplica(int r) {
         return r != 0 && r != 1 && r != 2;
     }

@@ -1,25 +1,28 @@
 import java.util.function.Consumer;
 
 /**
- * Each sentence of "Terms" and of "What it is" that names a boundary has a test here, with the
- * sentence above it: the last case on the one side, and the first on the other.
+ * Each sentence of "What it is" and of "Terms" has a test here, with the sentence above it;
+ * where it names a boundary, the last case on the one side and the first on the other.
  */
-public final class TermsEdgesTest {
+public final class TermsTest {
     private static final int BAD = TombstoneText.BAD;
     private static final int FULL = TombstoneText.FULL;
     /** Each way in which the three replicas can take three parts. */
     private static final int[][] PARTS = {{0, 1, 2}, {0, 2, 1}, {1, 0, 2}, {1, 2, 0}, {2, 0, 1}, {2, 1, 0}};
 
-    private static final Check CHECK = new Check("TermsEdgesTest");
+    private static final Check CHECK = new Check("TermsTest");
 
     public static void main(String[] args) {
+        arrivesInWhateverOrderAndHoweverOften();
         usedFor512Calls();
         replicasAreThree();
         charactersAreAllKept();
+        elementIsKnownByItsInsert();
         numberedFromZeroInOrderOfIssue();
         atMost100ByInserts();
         atMost100ByErases();
         atMost100WhateverWasCollected();
+        eachHasTheReplicaThatIssuedIt();
         placeInLineIsOfItsReplica();
         placedAfterTheStart();
         placedAfterAnElement();
@@ -29,6 +32,7 @@ public final class TermsEdgesTest {
         readyWhenAsManyAreAppliedAsItsClockSays();
         readyWhenBothHold();
         appliedAsLongAsOneIsReady();
+        whichIsAppliedFirstMakesNoDifference();
         appliedStaysAndNotTwice();
         stampIsOneWhenThereWereNone();
         stampIsOneMoreThanTheGreatest();
@@ -58,6 +62,60 @@ public final class TermsEdgesTest {
     }
 
     // What it is
+
+    /** "in whatever order and however often they arrive": each way that six can come. */
+    private static void arrivesInWhateverOrderAndHoweverOften() {
+        String inOrder = Reading.after(x -> deliverSixTwice(x, new int[] {0, 1, 2, 3, 4, 5}));
+        int[] order = {0, 1, 2, 3, 4, 5};
+        int ways = 0;
+        do {
+            int[] way = order.clone();
+            due("six as they come", Reading.after(x -> deliverSixTwice(x, way)).equals(inOrder), true);
+            ways++;
+        } while (goToNextOrder(order));
+        due("ways", ways, 720);
+    }
+
+    /** Two replicas write, one builds on the other, and the third receives each twice. */
+    private static void deliverSixTwice(TombstoneText x, int[] order) {
+        Scenes.write(x, 1, "ab");
+        x.deliver(0, 0);
+        x.insert(0, 1, 'c');
+        x.insert(1, 1, 'd');
+        x.erase(0, 0);
+        x.deliver(1, 2);
+        x.insert(1, 4, 'e');
+        for (int operation : order) {
+            x.deliver(2, operation);
+            x.deliver(2, operation);
+        }
+    }
+
+    /** The next in the order of a dictionary; false behind the last. */
+    private static boolean goToNextOrder(int[] order) {
+        int i = order.length - 2;
+        while (i >= 0 && order[i] > order[i + 1]) {
+            i--;
+        }
+        if (i < 0) {
+            return false;
+        }
+        int next = order.length - 1;
+        while (order[next] < order[i]) {
+            next--;
+        }
+        swap(order, i, next);
+        for (int low = i + 1, high = order.length - 1; low < high; low++, high--) {
+            swap(order, low, high);
+        }
+        return true;
+    }
+
+    private static void swap(int[] row, int i, int j) {
+        int one = row[i];
+        row[i] = row[j];
+        row[j] = one;
+    }
 
     /** "An object is used for at most 512 calls after it has been made". */
     private static void usedFor512Calls() {
@@ -107,6 +165,23 @@ public final class TermsEdgesTest {
             due("where it was issued " + c, x.at(1, c - 32), c);
             due("where it was delivered " + c, x.at(2, c - 32), c);
         }
+    }
+
+    /** "an element is what an insert made, and is known by that insert": not by its character. */
+    private static void elementIsKnownByItsInsert() {
+        TombstoneText x = new TombstoneText();
+        Scenes.write(x, 0, "aaa");
+        x.insert(0, 0, 'a');
+        x.erase(0, 2);
+        due("the last made stands first", x.position(0, 3), 0);
+        due("the first made", x.position(0, 0), 1);
+        due("the one that was erased", x.position(0, 1), BAD);
+        due("the one behind it", x.position(0, 2), 2);
+        due("an erase makes none", x.position(0, 4), BAD);
+        due("nor is it kept as one", x.kept(0), 4);
+        x.sync(1, 0);
+        due("it is the same elsewhere", x.position(1, 2), 2);
+        due("the erase took the same one", x.position(1, 1), BAD);
     }
 
     /** "numbered from 0 in the order in which they are issued, over all replicas". */
@@ -166,6 +241,23 @@ public final class TermsEdgesTest {
         due("insert", x.insert(0, 0, 'a'), FULL);
         due("erase", x.erase(0, 0), FULL);
         due("issued", x.operations(), 100);
+    }
+
+    /** "Each has the replica that issued it": it stays so wherever it is delivered. */
+    private static void eachHasTheReplicaThatIssuedIt() {
+        for (int[] part : PARTS) {
+            TombstoneText x = new TombstoneText();
+            x.insert(part[0], 0, 'a');
+            x.sync(part[1], part[0]);
+            x.insert(part[1], 1, 'b');
+            x.sync(part[2], part[1]);
+            x.erase(part[2], 0);
+            Scenes.syncAll(x);
+            for (int operation = 0; operation < 3; operation++) {
+                due("issued by", x.stamp(operation) % 4, part[operation]);
+                due("in its line", x.known(0, 0, part[operation]), 1);
+            }
+        }
     }
 
     /** "its PLACE IN LINE (it is that replica's 1st, 2nd, .. operation)". */
@@ -325,6 +417,31 @@ public final class TermsEdgesTest {
             x.deliver(part[(i + 1) % 2], i);
         }
         return x;
+    }
+
+    /** "(Which of several is applied first makes no difference.)": three are ready at once. */
+    private static void whichIsAppliedFirstMakesNoDifference() {
+        for (int[] part : PARTS) {
+            String byNumbers = Reading.after(x -> freeThree(x, new int[] {1, 2, 3}));
+            String byPart = Reading.after(x -> freeThree(x, new int[] {part[0] + 1, part[1] + 1, part[2] + 1}));
+            due("three by way of " + part[0] + part[1] + part[2], byPart.equals(byNumbers), true);
+        }
+        TombstoneText x = new TombstoneText();
+        freeThree(x, new int[] {3, 2, 1});
+        due("one frees three, of two replicas", Scenes.textOf(x, 2), "bdac");
+    }
+
+    /** Three build on the first; each of them waits until it comes. */
+    private static void freeThree(TombstoneText x, int[] order) {
+        x.insert(0, 0, 'a');
+        x.deliver(1, 0);
+        x.insert(1, 0, 'b');
+        x.insert(0, 1, 'c');
+        x.insert(1, 1, 'd');
+        for (int operation : order) {
+            x.deliver(2, operation);
+        }
+        x.deliver(2, 0);
     }
 
     /** "What is applied stays so; nothing is applied twice." */
@@ -850,7 +967,7 @@ public final class TermsEdgesTest {
     private static void refusedIn(String name, Consumer<TombstoneText> scene) {
         TombstoneText x = Scenes.play(scene);
         due("all are refused, " + name, refuseAll(x), true);
-        String after = Reading.after(scene.andThen(TermsEdgesTest::refuseAll));
+        String after = Reading.after(scene.andThen(TermsTest::refuseAll));
         due("nothing changed, " + name, after.equals(Reading.after(scene)), true);
     }
 
