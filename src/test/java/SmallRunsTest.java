@@ -25,6 +25,11 @@ public final class SmallRunsTest {
         {INSERT, 1, 0}, {SYNC, 0, 1}, {SYNC, 2, 1}, {INSERT, 0, 1}, {INSERT, 1, 1}, {INSERT, 2, 1},
         {ERASE, 0, 0}, {ERASE, 2, 0},
     };
+    /** All know that an element is erased, and one has written after it, which not all know. */
+    private static final int[][] HELD = {
+        {INSERT, 0, 0}, {SYNC, 1, 0}, {SYNC, 2, 0}, {INSERT, 1, 1}, {ERASE, 2, 0},
+        {SYNC, 0, 2}, {SYNC, 1, 2}, {INSERT, 1, 0},
+    };
     /** Much was issued by two in turns, and the third has received the later half alone. */
     private static final int[][] MUCH_WAITS = {
         {INSERT, 0, 0}, {DELIVER, 1, 0}, {INSERT, 1, 1}, {DELIVER, 0, 1}, {ERASE, 0, 0},
@@ -44,6 +49,7 @@ public final class SmallRunsTest {
         runAllFrom(check, NEW, 5);
         runAllFrom(check, NEARLY_STABLE, 3);
         runAllFrom(check, ALL_AT_ONCE, 3);
+        runAllFrom(check, HELD, 3);
         runAllFrom(check, MUCH_WAITS, 3);
         check.end();
     }

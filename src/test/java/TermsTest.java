@@ -52,6 +52,7 @@ public final class TermsTest {
         stableOnlyWhenAppliedThere();
         stableForEachOfTheThree();
         collectedWhenAnEraseIsStable();
+        collectedWhenOneOfItsErasesIsStable();
         collectedWhenAllAfterItAreStable();
         collectedThoughWhatIsFurtherIsNotStable();
         collectedOnlyOnce();
@@ -822,6 +823,27 @@ public final class TermsTest {
             due("just as many are known", x.known(part[0], part[2], part[0]), 3);
             due("it is stable", x.collect(part[0]), 1);
             due("what isn't erased is kept", x.kept(part[0]), 4);
+        }
+    }
+
+    /** "for which an erase is stable at r": one of three, whichever it is. */
+    private static void collectedWhenOneOfItsErasesIsStable() {
+        for (int[] part : PARTS) {
+            TombstoneText x = new TombstoneText();
+            x.insert(part[0], 0, 'a');
+            Scenes.syncAll(x);
+            x.erase(part[0], 0);
+            x.erase(part[1], 0);
+            x.erase(part[2], 0);
+            x.deliver(part[2], 2);
+            x.insert(part[2], 0, 'b');
+            x.sync(part[0], part[1]);
+            due("two are applied, none is stable", x.collect(part[0]), 0);
+            x.sync(part[0], part[2]);
+            due("its own isn't stable", x.stable(part[0], 1), false);
+            due("the second is", x.stable(part[0], 2), true);
+            due("the third isn't", x.stable(part[0], 3), false);
+            due("one is enough", x.collect(part[0]), 1);
         }
     }
 
