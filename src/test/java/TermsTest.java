@@ -55,6 +55,7 @@ public final class TermsTest {
         collectedWhenOneOfItsErasesIsStable();
         collectedWhenAllAfterItAreStable();
         collectedThoughWhatIsFurtherIsNotStable();
+        collectedAtEachReplicaByItself();
         collectedOnlyOnce();
         keptOtherwise();
         collectingChangesNoText();
@@ -905,6 +906,35 @@ public final class TermsTest {
             due("it goes", x.collect(part[0]), 1);
             x.erase(part[0], x.position(part[0], 1));
             due("the one after it has no stable erase", x.collect(part[0]), 0);
+        }
+    }
+
+    /** "COLLECTING at r .. is KEPT no more at r": elsewhere the same element is still held. */
+    private static void collectedAtEachReplicaByItself() {
+        for (int[] part : PARTS) {
+            TombstoneText x = new TombstoneText();
+            x.insert(part[0], 0, 'p');
+            Scenes.syncAll(x);
+            x.insert(part[1], 1, 'q');
+            x.erase(part[2], 0);
+            x.deliver(part[0], 2);
+            x.insert(part[0], 0, 'x');
+            x.sync(part[1], part[0]);
+            x.insert(part[1], 0, 'y');
+            x.deliver(part[2], 1);
+            x.insert(part[2], 0, 'z');
+            x.sync(part[0], part[1]);
+            x.sync(part[0], part[2]);
+            due("it goes where all are stable", x.collect(part[0]), 1);
+            due("elsewhere its erase is stable", x.stable(part[1], 2), true);
+            due("what is after it isn't", x.stable(part[1], 1), false);
+            due("so there it stays", x.collect(part[1]), 0);
+            due("and is kept", x.kept(part[1]), 4);
+            x.deliver(part[1], 5);
+            due("one has told", x.collect(part[1]), 0);
+            x.insert(part[0], 0, 'w');
+            x.deliver(part[1], 6);
+            due("until that is stable too", x.collect(part[1]), 1);
         }
     }
 
